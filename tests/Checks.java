@@ -1,3 +1,5 @@
+import java.util.function.ToIntFunction;
+
 /** What the tests of the project share: answers that are due, and boards made of texts. */
 final class Checks {
     private int wrong = 0;
@@ -16,6 +18,18 @@ final class Checks {
                 System.out.println(about + ": " + call + " answered " + got + ", due is " + want);
             }
         }
+    }
+
+    /** How many answers were looked at. */
+    int made() {
+        return made;
+    }
+
+    /** A call that is refused tells so, and the digest is the same ahead of it and behind it. */
+    void refused(LeapBoard x, String call, int want, ToIntFunction<LeapBoard> asked) {
+        long ahead = x.digest();
+        due(call, asked.applyAsInt(x), want);
+        due("digest() behind " + call, x.digest(), ahead);
     }
 
     /** Prints how it went, and ends with exit code 1 if an answer was wrong. */

@@ -15,7 +15,9 @@ import java.util.Set;
 public final class ModelTest {
     private static final int NONE = -1, UNKNOWN = -101, OUTSIDE = -102, STATE = -103, FULL = -104;
     private static final int RUNS = 400;
+    // an object is used for at most 512 calls; writing a board takes 33 of them at most
     private static final int CALLS = 512;
+    private static final int CALLS_OF_A_BOARD = 33;
     private static final int[] WILD = {-1, -2, 4, 5, 12, 13, 31, 32, 60, 100, 1000, Integer.MIN_VALUE, Integer.MAX_VALUE};
 
     private static class Plain {
@@ -728,12 +730,13 @@ public final class ModelTest {
             random = new Random(run);
             x = new LeapBoard();
             m = new Model();
-            for (int i = 0; i < CALLS; i++) {
-                checks.about("run " + run + ", call " + i);
+            int before = checks.made();
+            for (int i = 0; checks.made() - before < CALLS - CALLS_OF_A_BOARD; i++) {
+                checks.about("run " + run + ", call " + (checks.made() - before));
                 // most runs begin with a board, and few others follow
                 int pick = random.nextInt(100);
                 if (i == 3 || pick == 0) {
-                    i += writeBoard();
+                    writeBoard();
                 } else {
                     call(pick);
                 }
@@ -763,8 +766,8 @@ public final class ModelTest {
         checks.due("board of " + m.page, x.board(), m.board());
     }
 
-    /** Writes a board, mostly a right one, and reads it; how many calls that took. */
-    private static int writeBoard() {
+    /** Writes a board, mostly a right one, and reads it. */
+    private static void writeBoard() {
         blank();
         int length = 0;
         int men = 1 + random.nextInt(4);
@@ -788,7 +791,6 @@ public final class ModelTest {
         }
         fault();
         board();
-        return length + 3;
     }
 
     private static void call(int pick) {

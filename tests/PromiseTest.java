@@ -340,7 +340,7 @@ public final class PromiseTest {
         due("no cell", x.leap(0, 9), UNKNOWN);
         due("below", x.leap(0, -1), UNKNOWN);
         due("how many", x.count(4), 3);
-        for (int i = 4; i <= 500; i++) {
+        for (int i = 4; i <= 480; i++) {
             due("to and fro", x.leap(0, i % 2 == 0 ? 3 : 0), i);
         }
     }

@@ -738,7 +738,7 @@ public final class LeapBoard {
          * The least of the largest sets of the room, none of whose cells watches another one. The
          * highest cell is looked at first, and left out where that costs nothing: so it is the least.
          */
-        static int mostInPeace(int[] fan, int room, int highest) {
+        private static int mostInPeace(int[] fan, int room, int highest) {
             if (room == 0 || highest < 0 || highest >= fan.length) {
                 return 0;
             }
@@ -763,7 +763,7 @@ public final class LeapBoard {
          * The least of the smallest sets that guard all, or best, if none that holds the chosen ones
          * beats it. Some cell of each guarding set covers the lowest open one: no other is tried.
          */
-        static int fewestGuards(int[] fan, int free, int chosen, int covered, int best, int depth) {
+        private static int fewestGuards(int[] fan, int free, int chosen, int covered, int best, int depth) {
             int open = free & ~covered;
             if (open == 0) {
                 boolean isAhead = isLarger(best, chosen) || (!isLarger(chosen, best) && chosen < best);
